@@ -27,6 +27,7 @@ public final class Promise03TickTest {
         CHECK.due("tick(1)", x.tick(1), 41);
         CHECK.due("tick(41)", x.tick(41), PacedMux.BAD);
         CHECK.due("tick(0)", x.tick(0), 41);
+        CHECK.due("tick(39)", x.tick(39), 80);
     }
 
     private static void dueFirst() {

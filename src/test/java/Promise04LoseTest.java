@@ -25,6 +25,9 @@ public final class Promise04LoseTest {
         x.tick(1);
         CHECK.due("clock() counts what came", x.clock(), 89);
         CHECK.counts("no gap", x, 0, 0, 0, 0, 0, 0);
+        CHECK.due("lose(39)", x.lose(39), 132);
+        CHECK.due("lose(41)", x.lose(41), PacedMux.BAD);
+        CHECK.due("lose(0)", x.lose(0), 132);
         gapAfterLoss();
         CHECK.end();
     }

@@ -4,6 +4,7 @@ public final class Promise05SpoilTest {
 
     public static void main(String[] args) {
         ranges();
+        insideRanges();
         firstByte();
         streamNumber();
         startFlagOff();
@@ -30,6 +31,26 @@ public final class Promise05SpoilTest {
         CHECK.due("spoil(0, 0)", x.spoil(0, 0), 2);
         CHECK.due("bits 0 are no damage", x.clock(), 1);
         CHECK.due("nothing ignored", x.count(0), 0);
+    }
+
+    private static void insideRanges() {
+        PacedMux x = new PacedMux(7, 100);
+        int time = 0;
+        for (int i : Range.inside(0, 15)) {
+            for (int bits : Range.inside(0, 255)) {
+                time++;
+                CHECK.due("spoil(" + i + ", " + bits + ")", x.spoil(i, bits), time);
+            }
+            for (int bits : Range.outside(0, 255)) {
+                CHECK.due("spoil(" + i + ", " + bits + ")", x.spoil(i, bits), PacedMux.BAD);
+            }
+        }
+        for (int i : Range.outside(0, 15)) {
+            for (int bits : Range.inside(0, 255)) {
+                CHECK.due("spoil(" + i + ", " + bits + ")", x.spoil(i, bits), PacedMux.BAD);
+            }
+        }
+        CHECK.due("no time went by", x.tick(0), time);
     }
 
     private static void firstByte() {

@@ -7,6 +7,14 @@ public final class Promise06PacketTest {
         for (int i = -1; i <= 16; i++) {
             CHECK.due("no tick yet", x.packet(i), PacedMux.BAD);
         }
+        x.tick(0);
+        x.lose(0);
+        x.tick(41);
+        x.lose(-1);
+        x.spoil(16, 1);
+        x.spoil(1, 256);
+        x.retune();
+        CHECK.due("still no tick", x.packet(0), PacedMux.BAD);
         x.add(1, 30, 700, 250);
         x.tick(1);
         for (int bad : new int[] {-1, 16, Integer.MIN_VALUE, Integer.MAX_VALUE}) {
@@ -36,7 +44,25 @@ public final class Promise06PacketTest {
                 71, 194, 0, 16, 30, 0, 101, 6, 13, 20, 27, 34, 41, 48, 55, 62);
         laterClocks();
         clockInTheMiddle();
+        firstTickOfEachKind();
         CHECK.end();
+    }
+
+    /** "there was no tick": a lost or spoilt one is a tick. */
+    private static void firstTickOfEachKind() {
+        PacedMux x = new PacedMux(14, 200);
+        x.lose(1);
+        CHECK.packet("a lost one", x, 71, 112, 0, 0);
+        PacedMux y = new PacedMux(14, 200);
+        y.spoil(0, 255);
+        CHECK.packet("a spoilt one, as it was sent", y, 71, 112, 0, 0);
+        y.spoil(15, 255);
+        CHECK.packet("the latest", y, 71, 48);
+        y.tick(0);
+        y.lose(0);
+        CHECK.packet("no ticks leave it", y, 71, 48);
+        y.tick(7);
+        CHECK.packet("the last of seven", y, 71, 112, 0, 8);
     }
 
     private static void laterClocks() {

@@ -8,6 +8,11 @@ public final class Promise07To10StreamsTest {
         stored();
         levels();
         late();
+        for (int s = 0; s < 3; s++) {
+            emptyAndFull(s);
+            greatestLevels(s);
+            lateMoreThanEight(s);
+        }
         CHECK.end();
     }
 
@@ -19,6 +24,62 @@ public final class Promise07To10StreamsTest {
             CHECK.due("levels(" + bad + ")", x.levels(bad), PacedMux.BAD);
             CHECK.due("late(" + bad + ")", x.late(bad), PacedMux.BAD);
         }
+    }
+
+    /** Rows of 0, 1, 7 and 8 units; the other streams have none. */
+    private static void emptyAndFull(int s) {
+        PacedMux x = new PacedMux(14, 200);
+        for (int i = 0; i <= 8; i++) {
+            CHECK.due("waiting", x.waiting(s), i);
+            CHECK.due("stored", x.stored(s), 0);
+            CHECK.due("waiting, another", x.waiting((s + 1) % 3), 0);
+            x.add(s, 1, 500 + i, 0);
+        }
+        CHECK.due("the ninth was refused", x.waiting(s), 8);
+        for (int i = 1; i <= 8; i++) {
+            x.tick(1);
+            CHECK.due("waiting", x.waiting(s), 8 - i);
+            CHECK.due("stored", x.stored(s), i);
+            CHECK.due("stored, another", x.stored((s + 2) % 3), 0);
+        }
+        x.add(s, 1, 508, 0);
+        x.tick(1);
+        CHECK.due("none more is stored", x.stored(s), 8);
+        CHECK.due("it waits", x.waiting(s), 1);
+    }
+
+    /** HIGH * 32 + LOW: LOW at 28 with HIGH at 200, and HIGH at 0 with LOW above 0. */
+    private static void greatestLevels(int s) {
+        PacedMux x = new PacedMux(1, 200);
+        for (int size : new int[] {60, 60, 50}) {
+            x.add(s, size, 900 + x.waiting(s), 0);
+        }
+        x.tick(40);
+        x.tick(40);
+        x.tick(40);
+        x.tick(40);
+        x.tick(29);
+        CHECK.stream("170 sent, LOW empty", x, s, 170, 0, 0, 3);
+        x.add(s, 11, 910, 0);
+        x.add(s, 11, 911, 0);
+        x.add(s, 8, 912, 0);
+        x.tick(3);
+        CHECK.due("levels", x.levels(s), 200 * 32 + 28);
+        PacedMux y = new PacedMux(1, 200);
+        y.add(s, 60, 2, 0);
+        y.tick(3);
+        CHECK.due("a late one leaves LOW", y.levels(s), 21);
+    }
+
+    private static void lateMoreThanEight(int s) {
+        PacedMux x = new PacedMux(14, 200);
+        for (int i = 0; i < 20; i++) {
+            CHECK.due("late", x.late(s), i);
+            x.add(s, 60, x.tick(0) + 1, 0);
+            x.tick(2);
+        }
+        CHECK.due("late", x.late(s), 20);
+        CHECK.due("late, another", x.late((s + 1) % 3) + x.late((s + 2) % 3), 0);
     }
 
     private static void waiting() {

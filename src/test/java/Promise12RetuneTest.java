@@ -26,7 +26,46 @@ public final class Promise12RetuneTest {
         nothingCollected();
         noCounters();
         countsAnew();
+        newObject();
+        asIfNothingCame();
         CHECK.end();
+    }
+
+    private static void newObject() {
+        PacedMux x = new PacedMux(14, 200);
+        x.retune();
+        x.retune();
+        CHECK.alike("retune of a new object", x, new PacedMux(14, 200));
+    }
+
+    /** "The receiver is as at first": as if each packet until then had been lost. */
+    private static void asIfNothingCame() {
+        PacedMux x = manyUnits();
+        PacedMux y = manyUnits();
+        for (int i = 0; i < 24; i++) {
+            if (i % 5 == 3) {
+                x.spoil(i % 16, 129);
+            } else {
+                x.tick(1);
+            }
+            y.lose(1);
+        }
+        CHECK.due("a unit arrived", x.count(4) > 0 ? 1 : 0, 1);
+        CHECK.due("a clock is known", x.clock() >= 0 ? 1 : 0, 1);
+        x.retune();
+        x.tick(13);
+        y.tick(13);
+        CHECK.alike("after retune", x, y);
+    }
+
+    private static PacedMux manyUnits() {
+        PacedMux x = new PacedMux(6, 90);
+        for (int i = 0; i < 8; i++) {
+            for (int s = 0; s < 3; s++) {
+                x.add(s, 3 + 5 * i + s, 8 + 7 * i + s, 10 * i);
+            }
+        }
+        return x;
     }
 
     private static void nothingCollected() {

@@ -7,6 +7,7 @@ public final class Promise13CountTest {
         for (int bad : new int[] {-1, 6, Integer.MIN_VALUE, Integer.MAX_VALUE}) {
             CHECK.due("count(" + bad + ")", x.count(bad), PacedMux.BAD);
         }
+        eachCount();
         wrapIsNoGap();
         gapWithoutUnit();
         streamsApart();
@@ -14,6 +15,36 @@ public final class Promise13CountTest {
         timelyFar();
         timelyOverTheEnd();
         CHECK.end();
+    }
+
+    /** Each k from 0 to 5 grows by itself, or with those that the document ties to it. */
+    private static void eachCount() {
+        PacedMux x = new PacedMux(14, 200);
+        x.tick(1);
+        for (int i = 0; i < 5; i++) {
+            x.add(0, 1, 10 + i, 0);
+        }
+        x.tick(5);
+        CHECK.counts("five timely ones", x, 0, 0, 0, 0, 5, 5);
+        for (int i = 0; i < 6; i++) {
+            x.spoil(0, 1);
+        }
+        CHECK.counts("six ignored", x, 6, 0, 0, 0, 5, 5);
+        x.retune();
+        CHECK.counts("none", x, 0, 0, 0, 0, 0, 0);
+        x.add(0, 1, 505, 0);
+        x.tick(1);
+        CHECK.counts("no clock", x, 0, 0, 0, 0, 1, 0);
+        x.add(0, 1, 506, 0);
+        x.spoil(2, 1);
+        CHECK.counts("strange", x, 0, 0, 0, 1, 1, 0);
+        x.add(0, 12, 507, 0);
+        x.tick(1);
+        x.spoil(1, 8);
+        CHECK.counts("a gap, one broken", x, 0, 1, 1, 1, 1, 0);
+        x.add(0, 1, 508, 0);
+        x.tick(1);
+        CHECK.counts("another gap", x, 0, 2, 1, 1, 2, 1);
     }
 
     private static void wrapIsNoGap() {
