@@ -114,7 +114,7 @@ public final class TermsReadyTest {
         }
     }
 
-    /** Of 13 bytes that are left 12 have room in a clock: 9 + 11 + 12 = 32, where 33 is too much. */
+    /** Of 13 bytes that are left 12 have room in a clock: 9 + 11 + 12 = 32. */
     private static void highWithLessRoomInAClock() {
         for (int capacity = 31; capacity <= 33; capacity++) {
             PacedMux x = new PacedMux(14, capacity);

@@ -117,7 +117,7 @@ public final class TermsTickPart1Test {
         CHECK.counts("and is timely", x, 0, 0, 0, 0, 1, 1);
     }
 
-    /** The current unit is late at the time at which it is due, not before, and is not sent then. */
+    /** The current unit is late when it is due, not before, and is not sent then. */
     private static void lateWithNoneSent() {
         PacedMux x = new PacedMux(14, 200);
         x.add(0, 60, 1, 0);
@@ -131,7 +131,7 @@ public final class TermsTickPart1Test {
         CHECK.packet("nothing is left to send", x, 71, 48);
     }
 
-    /** "HIGH falls by the number of its bytes that were sent"; the next one begins at its byte 0. */
+    /** "HIGH falls by the number of its bytes that were sent"; the next begins at byte 0. */
     private static void lateWithSomeSent() {
         PacedMux x = new PacedMux(3, 200);
         x.add(0, 4, 900, 0);
