@@ -13,9 +13,12 @@ public final class PacedMux {
     private static final int MAX_UNITS = 8;
     private static final int MAX_SIZE = 60;
     private static final int MAX_BYTE = 255;
+    private static final int BYTE_VALUES = 256;
+    private static final int SEED_STEP = 7;
     private static final int MAX_AHEAD = 1000;
     private static final int MAX_TICKS = 40;
     private static final int MAX_LOW = 28;
+    private static final int HIGH_STEP = 32;
     private static final int MIN_LEAK = 1;
     private static final int MAX_LEAK = 14;
     private static final int MIN_CAPACITY = 20;
@@ -129,7 +132,7 @@ public final class PacedMux {
     }
 
     public int levels(int stream) {
-        return isStream(stream) ? senders[stream].high * 32 + senders[stream].low : BAD;
+        return isStream(stream) ? senders[stream].high * HIGH_STEP + senders[stream].low : BAD;
     }
 
     public int late(int stream) {
@@ -341,7 +344,7 @@ public final class PacedMux {
 
         void sendBytes(int n, Packet packet) {
             for (int i = 0; i < n; i++) {
-                packet.put(queue.firstSeed() + 7 * (sentBytes + i));
+                packet.put(queue.firstSeed() + SEED_STEP * (sentBytes + i));
             }
             sentBytes += n;
             low += n;
@@ -378,7 +381,7 @@ public final class PacedMux {
         }
 
         void putTime(int t) {
-            put(t / 256);
+            put(t / BYTE_VALUES);
             put(t);
         }
 
@@ -387,7 +390,7 @@ public final class PacedMux {
         }
 
         int timeAt(int i) {
-            return byteAt(i) * 256 + byteAt(i + 1);
+            return byteAt(i) * BYTE_VALUES + byteAt(i + 1);
         }
 
         void copyFrom(Packet other) {

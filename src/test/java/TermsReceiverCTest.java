@@ -3,10 +3,12 @@ public final class TermsReceiverCTest {
     private static final Check CHECK = new Check();
 
     public static void main(String[] args) {
-        for (int first = 0; first < 16; first++) {
-            noPacketBefore(first);
-            for (int next = 0; next < 16; next++) {
-                oneAfterAnother(first, next);
+        for (int s = 0; s < 3; s++) {
+            for (int first = 0; first < 16; first++) {
+                noPacketBefore(s, first);
+                for (int next = 0; next < 16; next++) {
+                    oneAfterAnother(s, first, next);
+                }
             }
         }
         roundWithoutDamage();
@@ -21,10 +23,10 @@ public final class TermsReceiverCTest {
     }
 
     /** "When a packet of the stream came before": the first has no gap before it. */
-    private static void noPacketBefore(int counter) {
+    private static void noPacketBefore(int s, int counter) {
         PacedMux x = new PacedMux(14, 200);
         for (int i = 0; i <= counter; i++) {
-            x.add(0, 1, i + 1, 0);
+            x.add(s, 1, i + 1, 0);
             if (i < counter) {
                 x.lose(1);
             }
@@ -36,14 +38,14 @@ public final class TermsReceiverCTest {
     }
 
     /** "the counter is not 1 more than its (0 after 15)": every pair of counters. */
-    private static void oneAfterAnother(int first, int next) {
+    private static void oneAfterAnother(int s, int first, int next) {
         PacedMux x = new PacedMux(14, 200);
-        x.add(1, 20, 500, 0);
+        x.add(s, 20, 500, 0);
         x.spoil(1, first);
         CHECK.due("the first", x.count(1), 0);
         x.spoil(1, 1 ^ next);
         boolean follows = first == 15 ? next == 0 : next == first + 1;
-        String when = first + " then " + next;
+        String when = "stream " + s + ": " + first + " then " + next;
         CHECK.counts(when, x, 0, follows ? 0 : 1, follows ? 0 : 1, 0, follows ? 1 : 0,
                 follows ? 1 : 0);
     }
